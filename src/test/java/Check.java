@@ -1,0 +1,124 @@
+import java.util.concurrent.Callable;
+
+/** What all tests use: counting of wrong answers, and texts put into the input buffer. */
+final class Check {
+    private static int wrong = 0;
+    private static int right = 0;
+
+    private Check() {
+    }
+
+    static void same(String what, Object got, Object due) {
+        if (due.equals(got)) {
+            right++;
+        } else {
+            wrong++;
+            System.out.println(what + " answered " + got + ", due is " + due);
+        }
+    }
+
+    /** The answer of a call, or "throws." and the name of the exception. */
+    static Object answer(Callable<Object> call) {
+        try {
+            return call.call();
+        } catch (Exception e) {
+            return "throws." + e.getClass().getSimpleName();
+        }
+    }
+
+    static void due(String what, Object due, Callable<Object> call) {
+        same(what, answer(call), due);
+    }
+
+    static void state(String what, Callable<Object> call) {
+        due(what, "throws.IllegalStateException", call);
+    }
+
+    static void argument(String what, Callable<Object> call) {
+        due(what, "throws.IllegalArgumentException", call);
+    }
+
+    static void index(String what, Callable<Object> call) {
+        due(what, "throws.IndexOutOfBoundsException", call);
+    }
+
+    static void end(String name) {
+        System.out.println(name + ": " + right + " right, " + wrong + " wrong");
+        System.exit(wrong == 0 && right > 0 ? 0 : 1);
+    }
+
+    static void put(WhoKnows x, String text) {
+        int before = x.truncate(x.append(0, 0, 0, 0, 0) - 20);
+        for (int from = 0; from < text.length(); from += 20) {
+            int[] words = new int[5];
+            for (int index = 0; index < 20; index++) {
+                int letter = from + index < text.length() ? text.charAt(from + index) : ' ';
+                words[index / 4] = words[index / 4] << 8 | letter;
+            }
+            x.append(words[0], words[1], words[2], words[3], words[4]);
+        }
+        x.truncate(before + text.length());
+    }
+
+    static Object read(WhoKnows x, String text) {
+        put(x, text);
+        return answer(x::readText);
+    }
+
+    static Object run(WhoKnows x, String text) {
+        put(x, text);
+        return answer(x::runOrders);
+    }
+
+    static Object ask(WhoKnows x, String text) {
+        put(x, text);
+        return answer(x::ask);
+    }
+
+    static WhoKnows told(String text) {
+        WhoKnows x = new WhoKnows();
+        Object answer = read(x, text);
+        if (!(answer instanceof Integer)) {
+            same("readText of " + text, answer + " " + x.errorCode() + " " + x.errorPosition(), "a number");
+        }
+        return x;
+    }
+
+    static void badText(String text, int code, int position) {
+        WhoKnows x = new WhoKnows();
+        argument("readText of \"" + text + "\"", () -> {
+            put(x, text);
+            return x.readText();
+        });
+        error("readText of \"" + text + "\"", x, code, position);
+    }
+
+    static void badOrders(String description, String text, int code, int position) {
+        WhoKnows x = told(description);
+        same("runOrders of \"" + text + "\"", run(x, text), "throws.IllegalArgumentException");
+        error("runOrders of \"" + text + "\"", x, code, position);
+    }
+
+    static void badAsk(String description, String text, int code, int position) {
+        WhoKnows x = told(description);
+        same("ask of \"" + text + "\"", ask(x, text), "throws.IllegalArgumentException");
+        error("ask of \"" + text + "\"", x, code, position);
+    }
+
+    static void error(String what, WhoKnows x, int code, int position) {
+        same(what + ": errorCode()", x.errorCode(), code);
+        same(what + ": errorPosition()", x.errorPosition(), position);
+    }
+
+    static String output(WhoKnows x) {
+        StringBuilder text = new StringBuilder();
+        for (int index = 0; x.outputByte(index) != WhoKnows.NONE; index++) {
+            text.append((char) x.outputByte(index));
+        }
+        return text.toString();
+    }
+
+    static String times(String text, int times) {
+        return text.repeat(times);
+    }
+}
