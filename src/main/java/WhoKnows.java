@@ -1098,7 +1098,6 @@ public final class WhoKnows {
             int fact = source.known(scene.facts);
             if (fact != NONE && takeNode()) {
                 formula.add(FACT, fact);
-                release(COMMONLY, formula);
             }
             return false;
         }
@@ -1126,7 +1125,6 @@ public final class WhoKnows {
                 release(OR, formula);
                 waiting--;
                 open--;
-                release(COMMONLY, formula);
             }
         }
 

@@ -128,6 +128,14 @@ public final class PromiseTests {
         Check.same("readText of what is left", x.readText(), 2);
         Check.same("persons", x.size(1), 2);
         Check.argument("the buffer is empty", () -> x.truncate(1));
+        Check.put(x, "facts ab;person pq");
+        x.truncate(17);
+        x.readText();
+        Check.same("a word that was cut", x.letter(true, 0, 1), NONE);
+        Check.put(x, "facts ab;person p b");
+        x.truncate(7);
+        Check.argument("what was cut is not read", x::readText);
+        Check.error("what was cut is not read", x, 1, 7);
     }
 
     private static void readText() {
@@ -293,6 +301,13 @@ public final class PromiseTests {
         Check.same("anew: the output stays", Check.output(x), "knows p a");
         Check.same("anew: what was saved stays", x.restore(), 4);
         Check.same("restored: facts", x.size(0), 2);
+        // Nothing is left of persons that there are no more.
+        Check.read(x, MUDDY);
+        Check.read(x, "facts a b;person p a b");
+        Check.same("fewer persons: knowers()", x.knowers(), 1);
+        Check.same("fewer persons: reach(0)", x.reach(0), 1);
+        Check.same("fewer persons: meanAlike()", x.meanAlike(), 1.0);
+        Check.same("fewer persons: round(0)", x.round(0), 1);
     }
 
     private static void runOrders() {
@@ -354,6 +369,7 @@ public final class PromiseTests {
         Check.badOrders(PAIR, "say all a;", 1, 4);
         Check.badOrders(PAIR, "whisper;", 1, 7);
         Check.badOrders(PAIR, "whisper that a;", 1, 8);
+        Check.badOrders(PAIR, "whisper not a;", 1, 8);
         Check.badOrders(PAIR, "whisper p p that a;", 2, 10);
         Check.badOrders(PAIR, "whisper p q p that a;", 2, 12);
         Check.badOrders(PAIR, "whisper p a that a;", 2, 10);
@@ -726,6 +742,15 @@ public final class PromiseTests {
         WhoKnows one = Check.told("facts a b;law a or not b;person p;person q b;real a b");
         Check.same("one round", one.roundsTo(0), 1);
         Check.same("of a fact that q knows", one.roundsTo(1), NONE);
+        // Worlds 1, 2, 3, 4, 6: q knows in 4 and 6, p in 1 as soon as these are gone, and q when 2 and 3 are gone.
+        WhoKnows two = Check.told("facts a b c;law not a or not c;law a or b or c;person p b;person q c;real a");
+        Check.same("two rounds", two.roundsTo(0), 2);
+        Check.same("the first one", two.round(0), 0);
+        Check.same("what it leaves", two.worlds(), 14);
+        Check.same("one more", two.roundsTo(0), 1);
+        Check.same("the second one", two.round(0), 1);
+        Check.same("none more", two.roundsTo(0), 0);
+        Check.same("all know", two.round(0), 3);
     }
 
     private static void bestFact() {
@@ -810,6 +835,11 @@ public final class PromiseTests {
         for (int what = 0; what < back.length; what++) {
             Check.same("account(" + what + ") taken back", x.account(what), back[what]);
         }
+        x.round(0);
+        x.undo();
+        Check.same("the LOG is taken back: sort", x.log(0, 0), 3);
+        Check.same("the LOG is taken back: person", x.log(0, 1), 4);
+        Check.same("the LOG is taken back: worlds", x.log(0, 2), 0);
     }
 
     private static void gapShareMean() {
