@@ -1,4 +1,5 @@
 import java.util.concurrent.Callable;
+import java.util.function.IntFunction;
 
 /** What all tests use: counting of wrong answers, and texts put into the input buffer. */
 final class Check {
@@ -40,6 +41,34 @@ final class Check {
 
     static void index(String what, Callable<Object> call) {
         due(what, "throws.IndexOutOfBoundsException", call);
+    }
+
+    /** A number is taken from 0 on, below an end; all others, those of a wrap-around among them, throw. */
+    static void below(String what, int end, String thrown, IntFunction<Object> call) {
+        for (int number : new int[] {0, end - 1}) {
+            Object answer = answer(() -> call.apply(number));
+            same(what + " of " + number + " throws", answer instanceof String, false);
+        }
+        for (int number : new int[] {-1, -32, end, end + 1, 32, end + 32, end + 256, Integer.MIN_VALUE,
+            Integer.MAX_VALUE}) {
+            same(what + " of " + number, answer(() -> call.apply(number)), "throws." + thrown);
+        }
+    }
+
+    static void indexBelow(String what, int end, IntFunction<Object> call) {
+        below(what, end, "IndexOutOfBoundsException", call);
+    }
+
+    static void argumentBelow(String what, int end, IntFunction<Object> call) {
+        below(what, end, "IllegalArgumentException", call);
+    }
+
+    static int rightCount() {
+        return right;
+    }
+
+    static int wrongCount() {
+        return wrong;
     }
 
     static void end(String name) {
@@ -116,6 +145,52 @@ final class Check {
             text.append((char) x.outputByte(index));
         }
         return text.toString();
+    }
+
+    /** How long the input buffer is, which must have room for 20 bytes. */
+    static int length(WhoKnows x) {
+        return x.truncate(x.append(0, 0, 0, 0, 0) - 20);
+    }
+
+    /** What is known of facts, persons, worlds, QUESTION, the LOG and the accounts. */
+    static String known(WhoKnows x) {
+        StringBuilder text = new StringBuilder();
+        for (int what = 0; what <= 8; what++) {
+            text.append(x.size(what)).append(' ');
+        }
+        names(x, false, x.size(0), text);
+        names(x, true, x.size(1), text);
+        for (int person = 0; person < x.size(1); person++) {
+            text.append(" sees ").append(x.sees(person)).append(" alike");
+            for (int world = 0; world < 1 << x.size(0); world++) {
+                text.append(' ').append(x.alike(person, world));
+            }
+        }
+        text.append(" worlds ").append(x.worlds()).append(" truth ").append(x.truth()).append(" log");
+        for (int index = 0; index < x.size(8); index++) {
+            text.append(' ').append(x.log(index, 0)).append(' ').append(x.log(index, 1)).append(' ');
+            text.append(x.log(index, 2)).append(',');
+        }
+        text.append(" accounts");
+        for (int what = 0; what <= 6; what++) {
+            text.append(' ').append(x.account(what));
+        }
+        return text.toString();
+    }
+
+    private static void names(WhoKnows x, boolean isPerson, int count, StringBuilder text) {
+        for (int number = 0; number < count; number++) {
+            for (int index = 0; x.letter(isPerson, number, index) != WhoKnows.NONE; index++) {
+                text.append((char) x.letter(isPerson, number, index));
+            }
+            text.append(' ');
+        }
+    }
+
+    /** All that can be asked without a change, but for the input buffer and what was saved. */
+    static String all(WhoKnows x) {
+        return known(x) + " changes " + x.size(9) + " error " + x.errorCode() + " " + x.errorPosition() + " output "
+                + output(x);
     }
 
     static String times(String text, int times) {
