@@ -77,16 +77,31 @@ final class Check {
     }
 
     static void put(WhoKnows x, String text) {
-        int before = x.truncate(x.append(0, 0, 0, 0, 0) - 20);
+        int before = length(x);
         for (int from = 0; from < text.length(); from += 20) {
-            int[] words = new int[5];
-            for (int index = 0; index < 20; index++) {
-                int letter = from + index < text.length() ? text.charAt(from + index) : ' ';
-                words[index / 4] = words[index / 4] << 8 | letter;
-            }
+            int[] words = words(text, from);
             x.append(words[0], words[1], words[2], words[3], words[4]);
         }
         x.truncate(before + text.length());
+    }
+
+    static void put(Model model, String text) {
+        int before = model.truncate(model.append(0, 0, 0, 0, 0) - 20);
+        for (int from = 0; from < text.length(); from += 20) {
+            int[] words = words(text, from);
+            model.append(words[0], words[1], words[2], words[3], words[4]);
+        }
+        model.truncate(before + text.length());
+    }
+
+    /** Twenty bytes of a text, from a place on, with spaces behind its end. */
+    private static int[] words(String text, int from) {
+        int[] words = new int[5];
+        for (int index = 0; index < 20; index++) {
+            int letter = from + index < text.length() ? text.charAt(from + index) : ' ';
+            words[index / 4] = words[index / 4] << 8 | letter;
+        }
+        return words;
     }
 
     static Object read(WhoKnows x, String text) {
