@@ -1,8 +1,9 @@
 import java.util.concurrent.Callable;
 
 /**
- * Every scene of two facts and two persons, each one law, REAL and set of facts that are seen, with every act there:
- * the program and the Model must foretell and answer the same, and know the same afterwards.
+ * Every scene of two facts and two persons, by the worlds that are left, REAL and the facts that each one sees, and
+ * each act there, of some formulas: the program and the Model must foretell and answer the same, and know the same
+ * afterwards.
  */
 public final class SmallScenes {
     private static final String[] WORLDS = {"not a and not b", "a and not b", "not a and b", "a and b"};
